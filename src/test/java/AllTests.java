@@ -1,0 +1,18 @@
+/** Runs every test of the project; exit code 1 if an answer was wrong. */
+public final class AllTests {
+  private AllTests() {
+  }
+
+  public static void main(String[] args) {
+    FaceTest.run();
+    OfficesTest.run();
+    PersonsTest.run();
+    PostageTest.run();
+    DayTest.run();
+    ReturnsTest.run();
+    System.out.println(Check.answers() + " answers, " + Check.wrongAnswers() + " wrong");
+    if (Check.wrongAnswers() > 0) {
+      System.exit(1);
+    }
+  }
+}

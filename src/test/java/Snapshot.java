@@ -1,0 +1,34 @@
+/** All that can be asked of a realm without changing it, as one text. */
+final class Snapshot {
+  private Snapshot() {
+  }
+
+  static String of(PostRoads x) {
+    StringBuilder text = new StringBuilder();
+    text.append(x.day()).append(' ').append(x.isProved()).append(' ').append(Check.balances(x));
+    text.append(' ').append(Check.outcome(x::handedShare)).append(' ').append(Check.outcome(x::meanDays));
+    for (int i = 0; i < 10; i++) {
+      int from = i;
+      text.append('\n').append(Check.outcome(() -> x.at(from)));
+      for (int j = 0; j < 10; j++) {
+        int to = j;
+        text.append(' ').append(Check.outcome(() -> x.days(from, to)));
+        text.append(' ').append(Check.outcome(() -> x.firstRoad(from, to)));
+        text.append(' ').append(Check.outcome(() -> x.price(from, to, 1, 1, 0)));
+      }
+    }
+    for (int i = 0; i < 16; i++) {
+      int person = i;
+      text.append(' ').append(Check.outcome(() -> x.home(person)));
+    }
+    for (int i = 0; i < 60 && exists(x, i); i++) {
+      text.append('\n').append(Check.whereabouts(x, i)).append(' ').append(x.due(i)).append(' ');
+      text.append(x.leftBack(i)).append(' ').append(Check.proofs(x, i));
+    }
+    return text.toString();
+  }
+
+  private static boolean exists(PostRoads x, int item) {
+    return !"IndexOutOfBoundsException".equals(Check.outcome(() -> x.state(item)));
+  }
+}

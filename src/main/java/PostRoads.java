@@ -521,32 +521,25 @@ public final class PostRoads {
     }
     Person taker = item.taker();
     if (taker.lives != trip.office) {
-      sendOn(item, officeOrNull(trip.office.known.read(taker.number)));
-    } else if (taker.takesFrom > today || (!trip.back && item.owed > 0)) {
-      waitLonger(item);
-    } else {
+      Office next = officeOrNull(trip.office.known.read(taker.number));
+      if (next == null || trip.sentOn >= MAX_SENT_ON) {
+        sendBack(item);
+      } else {
+        sendOn(item, next);
+      }
+    } else if (taker.takesFrom <= today && (trip.back || item.owed == 0)) {
       handOver(item);
-    }
-  }
-
-  private void waitLonger(Item item) {
-    Trip trip = item.trip;
-    trip.waited++;
-    if (trip.waited >= WAITS_TO_TURN) {
+    } else if (trip.waited + 1 >= WAITS_TO_TURN) {
       sendBack(item);
     } else {
+      trip.waited++;
       trip.state = WAITING;
     }
   }
 
   private void sendOn(Item item, Office next) {
-    Trip trip = item.trip;
-    if (next == null || trip.sentOn >= MAX_SENT_ON) {
-      sendBack(item);
-      return;
-    }
-    trip.sentOn++;
-    trip.turnTo(next, today);
+    item.trip.sentOn++;
+    item.trip.turnTo(next, today);
     item.prove(PROOF_ON, today);
   }
 

@@ -10,7 +10,14 @@ public final class AllTests {
     PostageTest.run();
     DayTest.run();
     ReturnsTest.run();
-    System.out.println(Check.answers() + " answers, " + Check.wrongAnswers() + " wrong");
+    CustomsTest.run();
+    MisthrowTest.run();
+    LossTest.run();
+    CloseTest.run();
+    FiguresTest.run();
+    WrongInputsTest.run();
+    RandomRunsTest.run();
+    System.out.println(Check.answers() - Check.wrongAnswers() + " passed, " + Check.wrongAnswers() + " failed");
     if (Check.wrongAnswers() > 0) {
       System.exit(1);
     }

@@ -491,7 +491,6 @@ public final class PostRoads {
   private void leaveCustoms(Item item) {
     Trip trip = item.trip;
     if (trip.state == AT_CUSTOMS && trip.readyDay == today) {
-      trip.state = AT_OFFICE;
       item.prove(PROOF_CLEARED, today);
       sendBack(item);
     }
@@ -547,7 +546,6 @@ public final class PostRoads {
     Trip trip = item.trip;
     if (trip.back) {
       trip.state = DEAD;
-      trip.misthrown = null;
       item.prove(PROOF_DEAD, today);
       return;
     }
@@ -558,7 +556,6 @@ public final class PostRoads {
 
   private void handOver(Item item) {
     Trip trip = item.trip;
-    trip.misthrown = null;
     if (trip.back) {
       trip.state = TO_SENDER;
       handedToSenders++;

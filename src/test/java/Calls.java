@@ -44,7 +44,7 @@ final class Calls {
     try {
       return method.invoke(realm, boxed);
     } catch (InvocationTargetException e) {
-      return e.getCause().getClass().getSimpleName();
+      return Check.name(e.getCause());
     } catch (IllegalAccessException e) {
       throw new IllegalStateException(e);
     }

@@ -38,8 +38,16 @@ final class Check {
     try {
       return call.run();
     } catch (RuntimeException e) {
-      return e.getClass().getSimpleName();
+      return name(e);
     }
+  }
+
+  /** An exception must come from a throw in the class, which gives a text, and not from the library below it. */
+  static String name(Throwable thrown) {
+    String name = thrown.getClass().getSimpleName();
+    StackTraceElement[] trace = thrown.getStackTrace();
+    boolean below = trace.length > 0 && trace[0].getClassName().startsWith("java");
+    return below ? name + " of the library" : name;
   }
 
   /** The kinds, places and days of an item's proofs, as "a0@0 d100@1". */

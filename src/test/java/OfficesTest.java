@@ -29,7 +29,10 @@ final class OfficesTest {
     Check.refuses(x, IllegalArgumentException.class, "office(-1)", () -> x.office(-1));
     Check.refuses(x, IllegalArgumentException.class, "office(3)", () -> x.office(3));
     for (int i = 0; i < 10; i++) {
+      int made = i;
       Check.same("office " + i, x.office(i % 3), i);
+      Check.same("days to itself without roads", x.days(i, i), 0);
+      Check.refuses(x, NoSuchElementException.class, "no road to itself", () -> x.firstRoad(made, made));
     }
     Check.refuses(x, IllegalStateException.class, "an 11th office", () -> x.office(0));
     Check.refuses(x, IllegalArgumentException.class, "an 11th office of no post", () -> x.office(3));

@@ -18,6 +18,8 @@ final class ReturnsTest {
     thirdComingOnTheWayBack();
     thirdComingIsBeforeTheGoal();
     fourthComing();
+    senderIsNotTheFirst();
+    backWithoutARoad();
   }
 
   private static void eighthDay() {
@@ -170,27 +172,6 @@ final class ReturnsTest {
     PostRoads x = Realms.offices(0, 0, 0);
     x.road(0, 1, 1, 127, 5);
     x.road(1, 0, 1, 127, 5);
-    x.road(1, 2, 1, 127, 5);
-    x.person(0);
-    x.person(2);
-    Realms.letter(x, 0, 1, 2);
-    for (int day = 1; day <= 4; day++) {
-      if (day % 2 == 0) {
-        x.goOn(1);
-      } else {
-        x.goOn(1);
-        x.bar(2, 2);
-      }
-      if (x.state(0) == 'o') {
-        x.misthrow(0, 1);
-      }
-    }
-    x.goOn(1);
-    Check.same("posting counts as once: the 3rd coming is the second return", Check.proofs(x, 0),
-        "a0@0 d100@1 r1@2 d101@3 r0@4 d100@4 r1@5 d102@5");
-    x = Realms.offices(0, 0, 0);
-    x.road(0, 1, 1, 127, 5);
-    x.road(1, 0, 1, 127, 5);
     x.road(1, 2, 1, 1 << 6, 5);
     x.person(0);
     x.person(2);
@@ -251,20 +232,54 @@ final class ReturnsTest {
   }
 
   private static void fourthComing() {
-    PostRoads x = Realms.offices(0, 0, 0);
+    PostRoads x = Realms.offices(0, 0, 0, 0, 0);
     x.road(0, 1, 1, 127, 5);
     x.road(1, 0, 1, 127, 5);
-    x.road(1, 2, 1, 1 << 6, 5);
+    x.road(1, 2, 1, 127, 5);
+    x.road(2, 1, 1, 127, 5);
+    x.road(1, 3, 1, 127, 5);
+    x.road(3, 1, 1, 127, 5);
     x.person(0);
-    x.person(2);
-    Realms.letter(x, 0, 1, 2);
-    x.goOn(2);
-    x.misthrow(0, 1);
+    x.person(4);
+    Realms.letter(x, 0, 1, 4);
+    x.bar(1, 30);
+    for (int road : new int[] {0, 2, 3, 4, 5}) {
+      x.misthrow(0, road);
+      x.goOn(2);
+    }
+    Check.same("sent back the 3rd time", x.proofAt(0, x.proofs(0) - 1), 's');
+    x.misthrow(0, 2);
     x.goOn(3);
-    x.misthrow(0, 1);
-    x.goOn(2);
-    x.misthrow(0, 0);
+    Check.same("a 4th time is no 3rd time", Check.whereabouts(x, 0), "o1");
+    x.bar(1, 0);
+    Check.same("it is handed over to the sender", x.goOn(2), 1);
+    Check.same("its proofs", Check.proofs(x, 0), "a0@0 d100@1 r1@2 d102@3 r2@4 d103@5 r1@6 d104@7 r3@8 d105@9"
+        + " r1@10 s1@10 d102@11 r2@12 d103@12 r1@13 d101@14 r0@15 b200@15");
+  }
+
+  private static void senderIsNotTheFirst() {
+    PostRoads x = Realms.peopled(0, 0, 0);
+    Realms.letter(x, 2, 1, 0);
+    x.goOn(3);
+    Check.same("on its way back", Check.whereabouts(x, 0), "r100");
+    Check.same("handed over to the sender", x.goOn(3), 1);
+    Check.same("200 plus the person", Check.whereabouts(x, 0), "b202");
+    Check.same("in the proof too", x.proofPlace(0, x.proofs(0) - 1), 202);
+  }
+
+  private static void backWithoutARoad() {
+    PostRoads x = Realms.offices(0);
+    x.person(0);
+    x.person(0);
+    x.hold(0, 30);
+    x.hold(1, 30);
+    Realms.letter(x, 0, 1, 0);
+    x.goOn(8);
+    Check.same("sent back on the 8th day, and stays", Check.proofs(x, 0), "a0@0 s0@8");
+    Check.same("not waiting yet", Check.whereabouts(x, 0), "o0");
+    x.goOn(7);
+    Check.same("waiting for the sender began anew", Check.whereabouts(x, 0), "w0");
     x.goOn(1);
-    Check.same("handed over although it was misthrown", Check.whereabouts(x, 0), "b200");
+    Check.same("a dead letter on the 8th day of this", Check.proofs(x, 0), "a0@0 s0@8 u0@16");
   }
 }

@@ -42,12 +42,13 @@ final class Check {
     }
   }
 
-  /** An exception must come from a throw in the class, which gives a text, and not from the library below it. */
+  /** An exception must come from a throw in the class (or the model) and not from the library below it. */
   static String name(Throwable thrown) {
     String name = thrown.getClass().getSimpleName();
     StackTraceElement[] trace = thrown.getStackTrace();
-    boolean below = trace.length > 0 && trace[0].getClassName().startsWith("java");
-    return below ? name + " of the library" : name;
+    String thrower = trace.length > 0 ? trace[0].getClassName() : "";
+    boolean own = thrower.startsWith("PostRoads") || thrower.startsWith("Model");
+    return own ? name : name + " of the library";
   }
 
   /** The kinds, places and days of an item's proofs, as "a0@0 d100@1". */

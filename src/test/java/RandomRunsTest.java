@@ -43,6 +43,7 @@ final class RandomRunsTest {
     }
     if (Check.wrongAnswers() > 0) {
       System.out.println("in the run " + run);
+      return;
     }
     compareAll();
   }

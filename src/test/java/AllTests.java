@@ -15,6 +15,11 @@ public final class AllTests {
     LossTest.run();
     CloseTest.run();
     FiguresTest.run();
+    RoadEdgesTest.run();
+    MailEdgesTest.run();
+    LimitsTest.run();
+    BoundsTest.run();
+    RefusedTest.run();
     WrongInputsTest.run();
     RandomRunsTest.run();
     System.out.println(Check.answers() - Check.wrongAnswers() + " passed, " + Check.wrongAnswers() + " failed");

@@ -35,6 +35,16 @@ final class Calls {
     }
   }
 
+  /** The outcome of a call that is written with its numbers, as "bar 0 30". */
+  static Object outcome(PostRoads realm, String call) {
+    String[] kinds = kinds(call);
+    int[] numbers = new int[kinds.length];
+    for (int i = 0; i < kinds.length; i++) {
+      numbers[i] = Integer.parseInt(kinds[i]);
+    }
+    return outcome(method(PostRoads.class, call), realm, numbers);
+  }
+
   /** The answer, or the simple name of the exception's own class. */
   static Object outcome(Method method, Object realm, int... numbers) {
     Object[] boxed = new Object[numbers.length];

@@ -7,10 +7,11 @@ final class Snapshot {
     StringBuilder text = new StringBuilder();
     text.append(x.day()).append(' ').append(x.isProved()).append(' ').append(Check.balances(x));
     text.append(' ').append(quick(x::handedShare)).append(' ').append(quick(x::meanDays));
-    for (int i = 0; i < 10; i++) {
+    int offices = offices(x);
+    for (int i = 0; i < offices; i++) {
       int from = i;
-      text.append('\n').append(quick(() -> x.at(from)));
-      for (int j = 0; j < 10; j++) {
+      text.append('\n').append(x.at(i));
+      for (int j = 0; j < offices; j++) {
         int to = j;
         text.append(' ').append(quick(() -> x.days(from, to)));
         text.append(' ').append(quick(() -> x.firstRoad(from, to)));
@@ -35,6 +36,15 @@ final class Snapshot {
     } catch (RuntimeException e) {
       return e.getClass().getSimpleName();
     }
+  }
+
+  private static int offices(PostRoads x) {
+    int count = 0;
+    for (int i = 0; i < 10; i++) {
+      int office = i;
+      count += quick(() -> x.at(office)) instanceof Integer ? 1 : 0;
+    }
+    return count;
   }
 
   private static boolean exists(PostRoads x, int item) {

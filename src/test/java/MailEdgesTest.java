@@ -13,6 +13,7 @@ final class MailEdgesTest {
     thirdTimeTwiceIsDead();
     eachDayOfWaiting();
     waitingForTwoReasons();
+    waitingGoesOnAcrossReasons();
     waitingDoesNotAddUp();
     eachSendingOn();
     sendingsOnAreCountedOnTheWayBack();
@@ -23,6 +24,8 @@ final class MailEdgesTest {
     closingLeavesOtherGoals();
     closingIsNoComing();
     closingWithMisthrown();
+    closingTheOfficeOfPosting();
+    leftBackStaysCounted();
     severalDaysAreSingleDays();
   }
 
@@ -188,6 +191,21 @@ final class MailEdgesTest {
     Check.same("paid, but held", y.goOn(1), 0);
     y.hold(1, 0);
     Check.same("neither any more", y.goOn(1), 1);
+  }
+
+  private static void waitingGoesOnAcrossReasons() {
+    PostRoads x = Realms.peopled(0, 0);
+    x.post(0, 1, 1, 1, 3, 0, 0);
+    x.goOn(5);
+    x.hold(1, 30);
+    x.pay(0);
+    x.goOn(1);
+    x.hold(1, 0);
+    x.hold(1, 30);
+    x.goOn(2);
+    Check.same("seven days, first unpaid, then held", Check.whereabouts(x, 0), "w1");
+    x.goOn(1);
+    Check.same("neither paying nor holding anew begins it anew", Check.whereabouts(x, 0), "r101");
   }
 
   private static void waitingDoesNotAddUp() {
@@ -360,6 +378,35 @@ final class MailEdgesTest {
     Check.same("a road apart from it", Check.whereabouts(x, 0), "r100");
     Check.same("a road to it: its way again", Check.whereabouts(x, 1), "r105");
     Check.same("the road of its way", Check.whereabouts(x, 2), "r105");
+  }
+
+  private static void closingTheOfficeOfPosting() {
+    PostRoads x = Realms.peopled(0, 1, 2);
+    x.post(0, 2, 2, 1, 1, 0, 1);
+    x.goOn(2);
+    Check.same("closed", x.close(0), 1);
+    Check.same("paid later", x.pay(0), 5);
+    Check.same("to the post of the office of posting", Check.balances(x), "6 0 0");
+    x.goOn(1);
+    Check.same("shared by the roads, the closed one's too", Check.balances(x), "3 3 0");
+    Check.same("which is all", x.state(0), 'v');
+  }
+
+  private static void leftBackStaysCounted() {
+    PostRoads x = Realms.offices(0, 0, 0);
+    x.road(0, 1, 1, 127, 1);
+    x.road(1, 0, 1, 127, 1);
+    x.person(0);
+    x.person(2);
+    for (int i = 0; i < 3; i++) {
+      Realms.letter(x, 0, 1, 1);
+    }
+    x.goOn(5);
+    Check.same("the last was left back twice, and sent back", Check.proofs(x, 2),
+        "a0@0 d100@3 r1@4 s1@4 d101@4 r0@5 b200@5");
+    Check.same("counted behind the sending back", x.leftBack(2), 2);
+    x.close(1);
+    Check.same("and behind its end", x.leftBack(2), 2);
   }
 
   private static void severalDaysAreSingleDays() {

@@ -28,7 +28,7 @@ final class RefusedTest {
       "IllegalArgumentException: hold 0 -1, hold 0 31, hold 1 31, hold 3 -1, hold 4 31",
       "IndexOutOfBoundsException: home -1, home 5",
       "IndexOutOfBoundsException: price -1 0 1 0 0, price 0 -1 1 0 0, price 6 0 1 0 0, price 0 6 1 0 0",
-      "IndexOutOfBoundsException: price 4 0 1 0 0, price 0 4 1 0 0, price 4 0 0 0 0, price 0 6 1 4 0, price 6 6 1 0 101",
+      "IndexOutOfBoundsException: price 4 0 1 0 0, price 0 4 1 0 0, price 4 0 0 0 0, price 0 6 1 4 0, price 6 6 1 0 -1",
       "IllegalArgumentException: price 0 1 0 0 0, price 0 1 21 0 0, price 0 1 1 -1 0, price 0 1 1 4 0",
       "IllegalArgumentException: price 0 1 1 0 -1, price 0 1 1 0 101",
       "IndexOutOfBoundsException: post -1 1 0 1 0 0 0, post 5 1 0 1 0 0 0, post 1 -1 0 1 0 0 0, post 1 5 0 1 0 0 0",
